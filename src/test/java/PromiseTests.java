@@ -213,6 +213,7 @@ public final class PromiseTests {
         x.day(0);
         x.image(1);
         x.row(0, 0, 1);
+        x.rest(0);
         feed(x, "law 7 40; village calm 20 5 1000;");
         due("7: a fault", x.plain(), -1000128);
         due("7: the plain stays", x.count(1), 2);
@@ -220,6 +221,7 @@ public final class PromiseTests {
         due("7: its acts stay", x.count(4), 3);
         due("7: its guards stay", x.village(0, 3), 1);
         due("7: the tape is empty", x.count(6), 0);
+        x.rest(0);
         feed(x, "law 7 41; village strong 3 2 1;");
         due("7: another in its place", x.plain(), 1);
         due("7: day 0", x.count(2), 0);
@@ -230,6 +232,16 @@ public final class PromiseTests {
         due("7: rows stay", x.count(0), 1);
         due("7: images stay", x.restore(1), 1);
         due("7: the image's villages", x.count(1), 2);
+        x.rest(0);
+        feed(x, "law 7 41;");
+        due("7: none in its place", x.plain(), 0);
+        due("7: none in its place", x.count(1), 0);
+        NightWells thirsty = told("law 7 41; village calm 0 0 9;");
+        thirsty.day(0);
+        thirsty.rest(0);
+        feed(thirsty, "law 7 41; village calm 0 0 9;");
+        thirsty.plain();
+        due("7: nobody lacked yet", thirsty.village(0, 4), 0);
     }
 
     private static void promise8() {
@@ -241,6 +253,15 @@ public final class PromiseTests {
         feed(x, "law 1 1;");
         due("8: read", x.plain(), 0);
         due("8: the latest yet", x.fault(), 2);
+        feed(x, "lawyer 12345;");
+        x.plain();
+        feed(x, "law");
+        due("8: nothing of the tape before, a name", x.plain(), -1000103);
+        feed(x, "law 1 11111111;");
+        x.plain();
+        feed(x, "law 1 1");
+        due("8: nothing of the tape before, a number", x.plain(), -1000107);
+        due("8: nothing of the tape before", x.fault(), 1);
         dueFault("", 1, 0);
         dueFault("  \n", 1, 3);
         dueFault("law", 1, 3);
@@ -308,6 +329,21 @@ public final class PromiseTests {
         NightWells alone = told("law 9 20; village strong 12 3 1;");
         due("9: alone", alone.day(1), 0);
         dueFills("9: alone", alone, 15);
+        NightWells seven = told("law 1 9;" + " village calm 1 1 3;".repeat(7));
+        due("9: seven", seven.day(0), 127);
+        due("9: seven", seven.count(5), 7);
+        NightWells old = told("law 1 9; village proud 1 1 0;");
+        for (int d = 0; d < 9999; d++) {
+            old.day(0);
+        }
+        due("9: FULL", old.day(0), FULL);
+        due("9: BAD ahead of FULL", old.day(100), BAD);
+        due("10: FULL", old.weather(1), FULL);
+        due("10: BAD ahead of FULL", old.weather(0), BAD);
+        due("9: no day by it", old.count(2), 9999);
+        due("9: others yet", old.guard(0, 1) + old.first(60) + old.undo(), NONE + 23);
+        due("9: the last undone", old.undo(), 22);
+        due("9: the last anew", old.day(0), 0);
         due("9: RAIN below", x.day(-1), BAD);
         due("9: RAIN above", x.day(100), BAD);
         due("9: no day by them", x.count(2), 2);
@@ -443,6 +479,7 @@ public final class PromiseTests {
         due("15: not within", x.first(3), NONE);
         x.day(0);
         due("15: from now on", x.first(60), 2);
+        due("15: of one", x.first(1), NONE);
         due("15: n below", x.first(0), BAD);
         due("15: n above", x.first(61), BAD);
         due("15: STATE ahead of BAD", new NightWells().first(0), STATE);
@@ -592,7 +629,10 @@ public final class PromiseTests {
         due("20: what all lack then", x.where(9, 2, 1), 24);
         due("20: of all alike the first", x.where(3, 2, 0), 0);
         due("20: what all lack then", x.where(3, 1, 1), 18);
+        due("20: the least f and n", x.where(1, 1, 1), 20);
+        due("20: the greatest f and n", x.where(99, 20, 1), 20 * 12);
         due("20: flow stays", x.village(1, 1), 0);
+        due("20: of seven the last", told("law 0 9;" + " village proud 0 1 1;".repeat(6) + " village proud 0 0 1;").where(1, 5, 0), 6);
         x.day(0);
         due("20: not what they lacked before", x.where(99, 1, 1), 12);
         due("20: f below", x.where(0, 1, 0), BAD);
@@ -617,6 +657,13 @@ public final class PromiseTests {
         // 3 and 2 do, 2 and 3 do not
         due("21: the first one what is over", y.wed(0, 1, 1), 0);
         due("21: the first one what is over, the other way", y.wed(1, 0, 1), 1);
+        NightWells z = told("law 0 90; village proud 7 0 2; village proud 4 0 1; village proud 0 0 0;");
+        // 6 and 5, three days and five
+        due("21: six and five", z.wed(0, 1, 3), 0);
+        due("21: six and five, a day more", z.wed(0, 1, 4), 1);
+        due("21: six and five, long", z.wed(0, 1, 20), 17);
+        // 4 and 3, two days; the other one has its 4 yet
+        due("21: with the third", z.wed(0, 2, 4), 2);
         due("21: alike", x.wed(0, 0, 1), BAD);
         due("21: a below", x.wed(-1, 0, 1), BAD);
         due("21: a above", x.wed(3, 0, 1), BAD);
