@@ -9,7 +9,8 @@ import java.util.TreeSet;
 /** Long runs of calls, ordinary and wild, each answered by a second model of the document, written apart. */
 public final class ModelTests {
     static final int NONE = -1000000, BAD = -1000001, STATE = -1000002, FULL = -1000003;
-    private static final int RUNS = 2000, CALLS = 512;
+    /** A turn may take some seventy calls; all are done before an object's 512 calls are. */
+    private static final int RUNS = 2000, CALLS = 440;
 
     /** A village as it stands; a change makes a new one. */
     record Well(String sort, int fill, int flow, int need, boolean guards, int lacked) {

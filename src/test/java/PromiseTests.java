@@ -1,60 +1,5 @@
 /** The promises 1 to 29, a method each: ordinary calls, the edges that the document names, wrong calls. */
-public final class PromiseTests {
-    private static final int NONE = -1000000, BAD = -1000001, STATE = -1000002, FULL = -1000003;
-    private static final int NULL = -1000011, PLACE = -1000012, KIND = -1000013, SIZE = -1000014, STORE = -1000015;
-    private static final int LOW = Integer.MIN_VALUE, HIGH = Integer.MAX_VALUE;
-
-    private static int wrong = 0;
-
-    private static void due(String what, long got, long want) {
-        if (got != want) {
-            wrong++;
-            System.out.println(what + " answered " + got + ", due is " + want);
-        }
-    }
-
-    private static void feed(NightWells x, String text) {
-        for (int i = 0; i < text.length(); i++) {
-            x.feed(text.charAt(i), 1);
-        }
-    }
-
-    private static NightWells told(String text) {
-        NightWells x = new NightWells();
-        feed(x, text);
-        due("plain of " + text, x.plain(), text.split("village ").length - 1);
-        return x;
-    }
-
-    private static void tell(NightWells x, int row, int... items) {
-        x.row(row, 2, items.length);
-        for (int i = 0; i < items.length; i++) {
-            x.set(row, i, items[i]);
-        }
-    }
-
-    private static void dueFills(String what, NightWells x, int... fills) {
-        for (int v = 0; v < fills.length; v++) {
-            due(what + ", fill of " + v, x.village(v, 0), fills[v]);
-        }
-    }
-
-    private static void dueTrace(String what, NightWells x, int... numbers) {
-        for (int i = 0; i < numbers.length; i++) {
-            due(what + ", trace " + i, x.trace(i), numbers[i]);
-        }
-        due(what + ", behind the trace", x.trace(numbers.length), NONE);
-    }
-
-    private static void dueFault(String text, int number, int place) {
-        NightWells x = new NightWells();
-        feed(x, text);
-        due("plain of <" + text + ">", x.plain(), -1000100 - place);
-        due("fault of <" + text + ">", x.fault(), number);
-        due("tape behind <" + text + ">", x.count(6), 0);
-        due("day without a plain", x.day(0), STATE);
-    }
-
+public final class PromiseTests extends Checks {
     private static void promise1() {
         NightWells x = new NightWells();
         for (int what = 0; what <= 6; what++) {
@@ -332,18 +277,6 @@ public final class PromiseTests {
         NightWells seven = told("law 1 9;" + " village calm 1 1 3;".repeat(7));
         due("9: seven", seven.day(0), 127);
         due("9: seven", seven.count(5), 7);
-        NightWells old = told("law 1 9; village proud 1 1 0;");
-        for (int d = 0; d < 9999; d++) {
-            old.day(0);
-        }
-        due("9: FULL", old.day(0), FULL);
-        due("9: BAD ahead of FULL", old.day(100), BAD);
-        due("10: FULL", old.weather(1), FULL);
-        due("10: BAD ahead of FULL", old.weather(0), BAD);
-        due("9: no day by it", old.count(2), 9999);
-        due("9: others yet", old.guard(0, 1) + old.first(60) + old.undo(), NONE + 23);
-        due("9: the last undone", old.undo(), 22);
-        due("9: the last anew", old.day(0), 0);
         due("9: RAIN below", x.day(-1), BAD);
         due("9: RAIN above", x.day(100), BAD);
         due("9: no day by them", x.count(2), 2);
@@ -894,9 +827,6 @@ public final class PromiseTests {
         promise27();
         promise28();
         promise29();
-        System.out.println(wrong == 0 ? "all promises hold" : wrong + " answers are not as due");
-        if (wrong != 0) {
-            System.exit(1);
-        }
+        end("all promises hold");
     }
 }
